@@ -311,7 +311,7 @@ public final class WireField {
         for (int read = 0; read < LONGEST_TEXT && at < to; read++) {
             int times = text.timesAt(at);
             int order = at + text.digitsAt(at);
-            int end = text.endOfOrder(order, 0, MACROS);
+            int end = text.behindOrder(order);
             if (end < 0) {
                 return false;
             }
@@ -496,6 +496,11 @@ public final class WireField {
             return endOfOrders(0, 0, letters) == length;
         }
 
+        /** The place behind the order, with all that is in it, that begins at a place; -1 if there is none. */
+        int behindOrder(int at) {
+            return endOfOrder(at, 0, MACROS);
+        }
+
         /** One bit for each letter. */
         int heldMacros() {
             int held = 0;
@@ -508,7 +513,7 @@ public final class WireField {
             return held;
         }
 
-        /** The place of the closing bracket or end where a row of ORDERS ends, -1 if it is none. */
+        /** The place of the closing bracket or end where a row of ORDERS ends, -1 if there is none. */
         private int endOfOrders(int from, int depth, int letters) {
             int at = from;
             for (int read = 0; read < LONGEST_TEXT && at >= 0 && at < length && !isClosing(signAt(at)); read++) {
@@ -517,8 +522,7 @@ public final class WireField {
             return at;
         }
 
-        /** The place behind the order (with all that is in it) that begins at a place, -1 if it is none. */
-        int endOfOrder(int at, int depth, int letters) {
+        private int endOfOrder(int at, int depth, int letters) {
             char sign = signAt(at);
             if (sign == '(') {
                 return endOfBracket(at + 1, ')', depth + 1, letters);

@@ -7,6 +7,7 @@ public final class Promise09SourceTest {
         sixtyFourBits();
         onlyWireBecomesHead();
         theirOrder();
+        fourAtOnce();
         thePlaceGoesOnAlways();
         addingChangesNothingElse();
         Check.end();
@@ -103,6 +104,25 @@ public final class Promise09SourceTest {
         for (int i = 0; i < due.length; i++) {
             y.run(1);
             Check.due("sources on one cell after " + (i + 1), Check.picture(y, 9, 9, 1, 1), due[i]);
+        }
+    }
+
+    private static void fourAtOnce() {
+        WireField x = new WireField();
+        for (int i = 0; i < 4; i++) {
+            x.set(i * 5, i * 5, 3);
+            x.source(i * 5, i * 5, 1L << i, 4);
+        }
+        for (int time = 1; time <= 12; time++) {
+            x.run(1);
+            for (int i = 0; i < 4; i++) {
+                Check.due("cell of source " + i + " at " + time, x.cell(i * 5, i * 5), (time - 1) % 4 == i ? 2 : 3);
+            }
+        }
+        Check.due("back(7)", x.back(7), true);
+        x.run(1);
+        for (int i = 0; i < 4; i++) {
+            Check.due("cell of source " + i + " taken back to 5 and run", x.cell(i * 5, i * 5), i == 1 ? 2 : 3);
         }
     }
 

@@ -42,5 +42,10 @@ public final class Promise15RecordTest {
         for (int probe : wrong) {
             Check.due("record(" + probe + ")", x.record(probe), 0);
         }
+        for (int i = 1; i < 4; i++) {
+            x.probe(1, 0);
+        }
+        Check.due("record(4) of four", x.record(4), 0);
+        Check.due("record(-1) of four", x.record(-1), 0);
     }
 }
