@@ -101,10 +101,6 @@ final class Check {
         return all.toString();
     }
 
-    static String wholeField(WireField x) {
-        return picture(x, 0, 0, 32, 24);
-    }
-
     /** Sets the cells that a picture shows. */
     static void paint(WireField x, int column, int row, String picture) {
         String[] rows = picture.split("/");
@@ -115,15 +111,15 @@ final class Check {
         }
     }
 
-    /** All that look and cell tell, so that a refused call can be seen to have changed nothing. */
-    static String state(WireField x) {
-        StringBuilder all = new StringBuilder(wholeField(x));
+    /** All that look, period, seen and record tell. */
+    static String numbers(WireField x) {
+        StringBuilder all = new StringBuilder();
         for (int what = 0; what <= 7; what++) {
             all.append(' ').append(x.look(what));
         }
         all.append(' ').append(x.period());
-        for (int p = 0; p < x.look(6); p++) {
-            all.append(' ').append(x.seen(p, 0)).append(' ').append(x.seen(p, 1)).append(' ').append(x.record(p));
+        for (int p = 0; p < 4; p++) {
+            all.append(' ').append(seen(x, p, 0)).append(' ').append(seen(x, p, 1)).append(' ').append(x.record(p));
         }
         return all.toString();
     }

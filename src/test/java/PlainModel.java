@@ -1,11 +1,13 @@
 import java.util.ArrayList;
 import java.util.Arrays;
 import java.util.List;
+import java.util.regex.Pattern;
 
 /** The document told a second time, as plainly as can be and in another way: texts, lists, a copy for every change. */
 final class PlainModel {
     private static final int[] DX = {0, 1, 0, -1};
     private static final int[] DY = {-1, 0, 1, 0};
+    private static final Pattern ORDERS = orders();
 
     private int[][] field = new int[24][32];
     private String line = "";
@@ -270,13 +272,17 @@ final class PlainModel {
     }
 
     /** A pattern for what has no brackets, put into itself three times for the brackets. */
-    private static boolean isOrders(String text) {
+    private static Pattern orders() {
         String single = "[FBRLUDEW<]|@[a-d]";
         String orders = "([0-9]{0,2}(" + single + "))*";
         for (int depth = 0; depth < 3; depth++) {
             orders = "([0-9]{0,2}(" + single + "|\\(" + orders + "\\)|\\[" + orders + "\\]))*";
         }
-        return text.matches(orders);
+        return Pattern.compile(orders);
+    }
+
+    private static boolean isOrders(String text) {
+        return ORDERS.matcher(text).matches();
     }
 
     private boolean allThere(String text) {

@@ -8,12 +8,13 @@ public final class Promise01NewObjectTest {
     }
 
     private static void everythingIsEmpty() {
-        WireField x = new WireField();
         for (int row = 0; row < 24; row++) {
+            WireField x = new WireField();
             for (int column = 0; column < 32; column++) {
                 Check.due("new cell(" + column + ", " + row + ")", x.cell(column, row), 0);
             }
         }
+        WireField x = new WireField();
         for (int what = 0; what <= 7; what++) {
             Check.due("new look(" + what + ")", x.look(what), 0);
         }

@@ -8,12 +8,11 @@ public final class Promise02TypeTest {
     }
 
     private static void onlyCharactersFrom33To126() {
-        WireField x = new WireField();
         for (int code = 0; code <= 65535; code++) {
+            WireField x = new WireField();
             boolean want = code >= 33 && code <= 126;
             Check.due("type((char) " + code + ")", x.type((char) code), want);
             Check.due("look(7) after type((char) " + code + ")", x.look(7), want ? 1 : 0);
-            x.wipe();
         }
     }
 

@@ -330,28 +330,16 @@ public final class Promise03DrawTest {
     }
 
     private static void whatThrowsChangesNothing() {
-        WireField x = new WireField();
-        Check.draw(x, "9FE", 0, 5, 1);
-        x.source(3, 5, 5L, 3);
-        x.probe(6, 5);
-        x.run(20);
-        String[] texts = {"FFFFX", "FF<@a", "3FW99F", "99[99R]", "E5F(RFF"};
-        for (String text : texts) {
-            x.wipe();
-            Check.write(x, text);
-            String before = Check.state(x);
-            String answer = Check.drawLine(x, 10, 10, 1);
-            Check.due(text + " throws", answer.equals(Check.ARGUMENT) || answer.equals(Check.UNSUPPORTED), true);
-            Check.due("state after " + text, Check.state(x), before);
+        String[] wrong = {"FFFFX", "FF<@c", "E5F(RFF"};
+        for (String text : wrong) {
+            Twins.changesNothing("draw of " + text, () -> Twins.busy(text), x -> Check.drawLine(x, 12, 4, 1), Check.ARGUMENT);
         }
-        x.wipe();
-        Check.write(x, "FF");
-        String before = Check.state(x);
-        Check.due("wrong cell", Check.drawLine(x, 32, 10, 1), Check.INDEX);
-        Check.due("state after a wrong cell", Check.state(x), before);
-        Check.due("back after refusals", x.back(16), true);
-        Check.due("the line is still there", Check.drawLine(x, 10, 20, 1), "2");
-        Check.due("what it draws", Check.picture(x, 10, 20, 4, 1), ".##.");
+        String[] tooFar = {"3FW99F", "99[99R]"};
+        for (String text : tooFar) {
+            Twins.changesNothing("draw of " + text, () -> Twins.busy(text), x -> Check.drawLine(x, 12, 4, 1),
+                    Check.UNSUPPORTED);
+        }
+        Twins.changesNothing("draw from a wrong cell", Twins::busy, x -> Check.drawLine(x, 32, 10, 1), Check.INDEX);
     }
 
     private static void historyIsForgotten() {

@@ -22,18 +22,10 @@ public final class Promise05WipeTest {
     }
 
     private static void nothingElseChanges() {
-        WireField x = new WireField();
-        Check.macro(x, "9FE", 0);
-        Check.draw(x, "@a", 0, 0, 1);
-        x.source(2, 0, 3L, 7);
-        x.probe(4, 0);
-        x.run(9);
-        String before = Check.state(x);
-        x.wipe();
-        Check.due("state after wipe", Check.state(x), before);
-        Check.write(x, "F");
-        x.wipe();
-        Check.due("state after type and wipe", Check.state(x), before);
-        Check.due("the macro is still there", Check.draw(x, "@a", 0, 5, 1), "11");
+        Twins.changesNothing("type and wipe", () -> Twins.busy(""), x -> {
+            x.type('F');
+            x.wipe();
+            return Integer.toString(x.look(7));
+        }, "0");
     }
 }

@@ -107,16 +107,11 @@ public final class Promise08CopyTest {
             {0, 0, 1, 1, 0, 0, low}, {0, 0, 1, 1, 0, 0, high}, {high, high, high, high, high, high, 1},
             {0, 0, 1, 1, 32, 0, 0}, {0, 0, 1, 1, 0, 24, 0}, {0, 0, 1, 1, -1, 0, 0}, {0, 0, 1, 1, 0, -1, 0},
             {0, 0, 32, 1, 0, 0, 1}, {0, 0, 25, 1, 0, 0, 3}};
-        WireField x = new WireField();
-        Check.paint(x, 0, 0, "###H/T##");
-        x.run(5);
-        String before = Check.state(x);
         for (int[] w : wrong) {
             String call = "copy" + java.util.Arrays.toString(w);
-            Check.due(call, x.copy(w[0], w[1], w[2], w[3], w[4], w[5], w[6]), false);
-            Check.due("state after " + call, Check.state(x), before);
+            Twins.changesNothing(call, Twins::busy,
+                    x -> Boolean.toString(x.copy(w[0], w[1], w[2], w[3], w[4], w[5], w[6])), "false");
         }
-        Check.due("back(5) after refused ones", x.back(5), true);
     }
 
     private static void historyIsForgotten() {

@@ -31,21 +31,18 @@ public final class Promise11RunTest {
         for (int i = 0; i < 60; i++) {
             often.run(1);
         }
-        Check.due("60 at once and one by one", Check.state(once), Check.state(often));
+        Check.due("60 at once and one by one", look(once), look(often));
         Check.due("the HEADs", heads, once.look(1));
     }
 
+    private static String look(WireField x) {
+        return Check.picture(x, 0, 0, 16, 16) + Check.numbers(x);
+    }
+
     private static void wrongNumbers() {
-        WireField x = new WireField();
-        Check.paint(x, 0, 0, "TH####");
-        x.source(1, 0, 1L, 4);
-        x.probe(3, 0);
-        x.run(3);
-        String before = Check.state(x);
         int[] wrong = {0, 61, -1, 100, Integer.MIN_VALUE, Integer.MAX_VALUE};
         for (int n : wrong) {
-            Check.due("run(" + n + ")", x.run(n), -1);
-            Check.due("state after run(" + n + ")", Check.state(x), before);
+            Twins.changesNothing("run(" + n + ")", Twins::busy, x -> Integer.toString(x.run(n)), "-1");
         }
     }
 
@@ -91,7 +88,7 @@ public final class Promise11RunTest {
         for (int row = 0; row < 24; row++) {
             for (int column = 0; column < 32; column++) {
                 WireField x = new WireField();
-                fill(x, 3);
+                fillWithWire(x);
                 x.set(column, row, 1);
                 int columns = column == 0 || column == 31 ? 2 : 3;
                 int rows = row == 0 || row == 23 ? 2 : 3;
@@ -102,11 +99,11 @@ public final class Promise11RunTest {
         }
     }
 
-    private static void fill(WireField x, int value) {
-        for (int row = 0; row < 24; row++) {
-            for (int column = 0; column < 32; column++) {
-                x.set(column, row, value);
-            }
+    private static void fillWithWire(WireField x) {
+        x.set(0, 0, 3);
+        Check.draw(x, "31F", 0, 0, 1);
+        for (int row = 1; row < 24; row++) {
+            x.copy(0, 0, 32, 1, 0, row, 0);
         }
     }
 

@@ -22,44 +22,55 @@ public final class Promise12BackTest {
         return x;
     }
 
-    private static void toEachOfTheLatestSixteen() {
-        for (int length = 1; length <= 40; length++) {
-            String[] fields = new String[length + 1];
-            WireField tracked = busy();
-            fields[0] = Check.wholeField(tracked);
-            for (int i = 1; i <= length; i++) {
-                tracked.run(1);
-                fields[i] = Check.wholeField(tracked);
+    /** All cells that are not EMPTY in a busy one lie here. */
+    private static String fieldOf(WireField x) {
+        return Check.picture(x, 3, 3, 18, 14) + " " + x.look(1) + " " + x.look(2) + " " + x.look(3);
+    }
+
+    /** The fields at each time up to one, each from an object of its own. */
+    private static String[] fieldsUpTo(int length) {
+        String[] fields = new String[length + 1];
+        for (int time = 0; time <= length; time++) {
+            WireField x = busy();
+            if (time > 0) {
+                x.run(time);
             }
+            fields[time] = fieldOf(x);
+        }
+        return fields;
+    }
+
+    private static void toEachOfTheLatestSixteen() {
+        String[] fields = fieldsUpTo(40);
+        for (int length = 1; length <= 40; length++) {
             for (int n = 1; n <= 18; n++) {
+                int kept = Math.min(length, 16);
+                int time = n <= kept ? length - n : length;
                 WireField x = busy();
                 x.run(length);
-                int kept = Math.min(length, 16);
                 Check.due("look(4) after " + length, x.look(4), kept);
                 Check.due("back(" + n + ") after " + length, x.back(n), n <= kept);
-                int time = n <= kept ? length - n : length;
                 Check.due("look(0) then", x.look(0), time);
                 Check.due("look(4) then", x.look(4), n <= kept ? kept - n : kept);
-                Check.due("the field then", Check.wholeField(x), fields[time]);
-                x.run(length - time > 0 ? length - time : 1);
-                if (time < length) {
-                    Check.due("the field when run again", Check.wholeField(x), fields[length]);
+                Check.due("the field then", fieldOf(x), fields[time]);
+                WireField y = busy();
+                y.run(length);
+                if (y.back(n)) {
+                    y.run(n);
+                    Check.due("the field when run again", fieldOf(y), fields[length]);
                 }
             }
         }
     }
 
     private static void wrongNumbers() {
-        WireField x = busy();
-        Check.due("back(1) at the beginning", x.back(1), false);
-        x.run(10);
-        String before = Check.state(x);
-        int[] wrong = {0, -1, 11, 16, 17, Integer.MIN_VALUE, Integer.MAX_VALUE};
+        Check.due("back(1) at the beginning", busy().back(1), false);
+        int[] wrong = {0, -1, 14, 16, 17, Integer.MIN_VALUE, Integer.MAX_VALUE};
         for (int n : wrong) {
-            Check.due("back(" + n + ")", x.back(n), false);
-            Check.due("state after back(" + n + ")", Check.state(x), before);
+            Twins.changesNothing("back(" + n + ")", Twins::busy, x -> Boolean.toString(x.back(n)), "false");
         }
-        x.run(50);
+        WireField x = busy();
+        x.run(60);
         Check.due("back(17) after 60", x.back(17), false);
         Check.due("back(16) after 60", x.back(16), true);
         Check.due("back(1) after that", x.back(1), false);
@@ -71,19 +82,18 @@ public final class Promise12BackTest {
     }
 
     private static void stepByStep() {
-        WireField x = busy();
-        String[] fields = new String[31];
-        for (int i = 0; i <= 30; i++) {
-            fields[i] = Check.wholeField(x);
-            x.run(1);
+        String[] fields = fieldsUpTo(30);
+        for (int steps = 1; steps <= 17; steps++) {
+            WireField x = busy();
+            x.run(31);
+            for (int i = 1; i <= steps; i++) {
+                Check.due("back(1) number " + i, x.back(1), i <= 16);
+            }
+            int time = Math.max(31 - steps, 15);
+            Check.due("the field at " + time, fieldOf(x), fields[time]);
+            Check.due("look(0) at " + time, x.look(0), time);
+            Check.due("look(4) at " + time, x.look(4), time - 15);
         }
-        for (int i = 30; i >= 15; i--) {
-            Check.due("back(1) to " + i, x.back(1), true);
-            Check.due("the field at " + i, Check.wholeField(x), fields[i]);
-            Check.due("look(0) at " + i, x.look(0), i);
-            Check.due("look(4) at " + i, x.look(4), i - 15);
-        }
-        Check.due("back(1) to 14", x.back(1), false);
     }
 
     private static void sourcesStandAsTheyWere() {

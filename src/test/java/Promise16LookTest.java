@@ -47,9 +47,9 @@ public final class Promise16LookTest {
     }
 
     private static void cellsAreCounted() {
-        WireField x = new WireField();
-        int[] due = new int[4];
         for (int row = 0; row < 24; row++) {
+            WireField x = new WireField();
+            int[] due = new int[4];
             for (int column = 0; column < 32; column++) {
                 int value = (column * column + row * 3) % 4;
                 x.set(column, row, value);
