@@ -17,6 +17,7 @@ public final class EdgeDrawingTest {
         electronsWithTheBackToTheEdge();
         onlyAWireBecomesTail();
         emptyingAnEmptyCell();
+        branchesEndAsTheyBegan();
         branchesAtTheEdge();
         diodesUpToTheEdge();
         theMiddleOfADiodeKeepsItsContent();
@@ -91,6 +92,9 @@ public final class EdgeDrawingTest {
         Check.due("one whose branch throws with the pen up", Check.draw(x, "(U9B)", 0, 3, 1), Check.UNSUPPORTED);
         Check.due("behind that one", Check.draw(x, "F", 0, 3, 1), "1");
         Check.due("what is drawn", Check.picture(x, 0, 0, 3, 5), ".#./.#./.#./.#./...");
+        Check.due("up and down again", Check.draw(x, "UFDFUF", 0, 7, 1), "6");
+        Check.due("up when it is up, down when it is down", Check.draw(x, "UUFDDFDF", 0, 8, 1), "8");
+        Check.due("what is drawn then", Check.picture(x, 0, 7, 5, 2), "..#../..##.");
     }
 
     /** "a number (1 or 2 digits) in front of an order does it so often" */
@@ -195,17 +199,27 @@ public final class EdgeDrawingTest {
     }
 
     private static void onlyAWireBecomesTail() {
-        int[] then = {0, 1, 2, 2};
-        for (int behind = 0; behind <= 3; behind++) {
-            for (int here = 0; here <= 3; here++) {
-                WireField x = new WireField();
-                x.set(0, 0, behind);
-                x.set(1, 0, here);
-                Check.due("E on " + here + " with " + behind + " behind it", Check.draw(x, "E", 1, 0, 1), "1");
-                Check.due("the cell", x.cell(1, 0), 1);
-                Check.due("the one behind it", x.cell(0, 0), then[behind]);
+        for (int direction = 0; direction < 4; direction++) {
+            for (int behind = 0; behind <= 3; behind++) {
+                for (int here = 0; here <= 3; here++) {
+                    electronOn(here, behind, direction);
+                }
             }
         }
+    }
+
+    private static void electronOn(int here, int behind, int direction) {
+        int[] then = {0, 1, 2, 2};
+        WireField x = new WireField();
+        Check.paint(x, 4, 4, "###/###/###");
+        int column = 5 - COLUMN_STEPS[direction];
+        int row = 5 - ROW_STEPS[direction];
+        x.set(column, row, behind);
+        x.set(5, 5, here);
+        Check.due("E on " + here + " with " + behind + " behind it", Check.draw(x, "E", 5, 5, direction), "1");
+        Check.due("the cell", x.cell(5, 5), 1);
+        Check.due("the one behind it", x.cell(column, row), then[behind]);
+        Check.due("the seven others stay", x.look(3), 7);
     }
 
     /** "W: the cell becomes EMPTY" */
@@ -221,7 +235,23 @@ public final class EdgeDrawingTest {
         }
     }
 
-    /** "( ORDERS ): these, and pen, direction and cell are as before then": what leads out of it is an error all the same. */
+    /** "( ORDERS ): these, and pen, direction and cell are as before then" */
+    private static void branchesEndAsTheyBegan() {
+        for (int direction = 0; direction < 4; direction++) {
+            int column = 10 + COLUMN_STEPS[direction];
+            int row = 10 + ROW_STEPS[direction];
+            WireField x = new WireField();
+            Check.due("a branch with the pen up", Check.draw(x, "(ULLFRF)F", 10, 10, direction), "8");
+            Check.due("the cell behind it", x.cell(column, row), 3);
+            Check.due("no other", x.look(3), 1);
+            WireField y = new WireField();
+            Check.due("a branch with the pen down", Check.draw(y, "U(DF)3F", 10, 10, direction), "7");
+            Check.due("the cell in it", y.cell(column, row), 3);
+            Check.due("no other", y.look(3), 1);
+        }
+    }
+
+    /** What leads beyond the field is an error in a branch too. */
     private static void branchesAtTheEdge() {
         WireField x = new WireField();
         Check.due("out of a branch and back", Check.draw(x, "(FB)", 31, 5, 1), Check.UNSUPPORTED);
@@ -272,6 +302,15 @@ public final class EdgeDrawingTest {
                     x.set(10 + ahead * COLUMN_STEPS[direction], 10 + ahead * ROW_STEPS[direction], old);
                 }
                 Check.draw(x, "<", 10, 10, direction);
+                for (int side = -1; side <= 1; side += 2) {
+                    int right = (direction + 1) % 4;
+                    for (int ahead = 0; ahead <= 5; ahead++) {
+                        Check.due("the cell beside " + ahead + " ahead in direction " + direction,
+                                x.cell(10 + ahead * COLUMN_STEPS[direction] + side * COLUMN_STEPS[right],
+                                        10 + ahead * ROW_STEPS[direction] + side * ROW_STEPS[right]),
+                                ahead == 2 || ahead == 3 ? 3 : 0);
+                    }
+                }
                 for (int ahead = 0; ahead <= 5; ahead++) {
                     Check.due("the cell " + ahead + " ahead in direction " + direction,
                             x.cell(10 + ahead * COLUMN_STEPS[direction], 10 + ahead * ROW_STEPS[direction]),

@@ -17,6 +17,7 @@ public final class EdgeFieldCallsTest {
         copyRefusesThePieceBeyondTheField();
         copyRefusesTheCopyBeyondTheField();
         copyTurnedHasWidthForHeight();
+        copyTakesNoCellBesideThePiece();
         copyRefusesWidthOrHeightBelowOne();
         copyRefusesOtherTurns();
         copyRefusesWhatWouldWrapAround();
@@ -156,6 +157,20 @@ public final class EdgeFieldCallsTest {
             Check.due("a row turned " + turns, x.copy(0, 0, 3, 1, 10, 10, turns), true);
             boolean lies = turns % 2 == 0;
             Check.due("the copy", Check.picture(x, 10, 10, lies ? 3 : 1, lies ? 1 : 3), due[turns]);
+        }
+    }
+
+    /** "Copies a piece of the field": what lies round it stays where it is, at all four sides. */
+    private static void copyTakesNoCellBesideThePiece() {
+        for (int turns = 0; turns <= 3; turns++) {
+            boolean lies = turns % 2 == 0;
+            WireField x = new WireField();
+            Check.paint(x, 4, 4, "HHHHH/H###H/H###H/HHHHH");
+            Check.due("copy turned " + turns, x.copy(5, 5, 3, 2, 15, 15, turns), true);
+            Check.due("the copy and what is round it", Check.picture(x, 14, 14, 5, 5),
+                    lies ? "...../.###./.###./...../....." : "...../.##../.##../.##../.....");
+            Check.due("HEADs", x.look(1), 14);
+            Check.due("WIREs", x.look(3), 12);
         }
     }
 
