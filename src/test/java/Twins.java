@@ -45,7 +45,7 @@ final class Twins {
         x.source(4, 1, 1L, 64);
         x.source(5, 4, -2L, 3);
         x.probe(2, 4);
-        x.probe(16, 7);
+        x.probe(14, 7);
         x.run(16);
         return x;
     }
@@ -73,10 +73,10 @@ final class Twins {
         for (int n = 1; n <= 17; n++) {
             int generations = n;
             all.add(x -> Boolean.toString(x.back(generations)));
+            all.add(x -> x.back(generations) + " " + x.run(30));
         }
         all.add(x -> Integer.toString(x.run(1)));
         all.add(x -> Integer.toString(x.run(60)));
-        all.add(x -> x.back(9) + " " + x.run(30));
         all.add(x -> x.source(8, 4, 5L, 6) + " " + x.run(20));
         all.add(x -> x.probe(8, 4) + " " + x.run(20));
         return all;
