@@ -25,9 +25,9 @@ public final class WireField {
     private static final int[] ROW_STEPS = {-1, 0, 1, 0};
 
     private final Grid field = new Grid();
-    /** Takes what may still fail or needs the field as it was before, so that a refusal changes nothing. */
+    /** Copying and a generation need the field as it was before beside the one that they make. */
     private final Grid draft = new Grid();
-    private final Pen pen = new Pen(draft);
+    private final Pen pen = new Pen();
     private final Text line = new Text();
     private final Text[] macros = new Text[MACROS];
     private final boolean[] macroIsThere = new boolean[MACROS];
@@ -66,12 +66,11 @@ public final class WireField {
         if (!line.isOrders(MACROS) || !macrosOfLineAreThere()) {
             throw new IllegalArgumentException("the line can not be drawn");
         }
-        draft.takeFrom(field);
-        pen.begin(column, row, direction);
+        pen.begin(field, column, row, direction);
         if (!perform(line, 0, line.length, 1)) {
             throw new UnsupportedOperationException("the line leads beyond the field or does too many orders");
         }
-        field.takeFrom(draft);
+        field.takeFrom(pen.sheet);
         line.clear();
         forgetHistory();
         return pen.ordersDone;
@@ -551,18 +550,16 @@ public final class WireField {
     }
 
     private static final class Pen {
-        private final Grid grid;
+        /** The pen draws on a sheet of its own, so that a drawing that ends with an error changes nothing. */
+        private final Grid sheet = new Grid();
         private int column = 0;
         private int row = 0;
         private int direction = 0;
         private boolean isDown = true;
         private int ordersDone = 0;
 
-        Pen(Grid grid) {
-            this.grid = grid;
-        }
-
-        void begin(int atColumn, int atRow, int towards) {
+        void begin(Grid before, int atColumn, int atRow, int towards) {
+            sheet.takeFrom(before);
             column = atColumn;
             row = atRow;
             direction = towards;
@@ -601,7 +598,7 @@ public final class WireField {
                     putElectron();
                     return true;
                 case 'W':
-                    grid.put(column, row, EMPTY);
+                    sheet.put(column, row, EMPTY);
                     return true;
                 case '<':
                     return drawDiode();
@@ -624,7 +621,7 @@ public final class WireField {
 
         private void mark(int forward, int aside) {
             if (isDown) {
-                grid.put(columnAt(forward, aside), rowAt(forward, aside), WIRE);
+                sheet.put(columnAt(forward, aside), rowAt(forward, aside), WIRE);
             }
         }
 
@@ -648,11 +645,11 @@ public final class WireField {
         }
 
         private void putElectron() {
-            grid.put(column, row, HEAD);
+            sheet.put(column, row, HEAD);
             int behindColumn = columnAt(-1, 0);
             int behindRow = rowAt(-1, 0);
-            if (grid.valueAt(behindColumn, behindRow) == WIRE) {
-                grid.put(behindColumn, behindRow, TAIL);
+            if (sheet.valueAt(behindColumn, behindRow) == WIRE) {
+                sheet.put(behindColumn, behindRow, TAIL);
             }
         }
 

@@ -52,6 +52,10 @@ public final class FaceTest {
         for (Class<?> inside : WireField.class.getDeclaredClasses()) {
             Check.due(inside.getName() + " is static", Modifier.isStatic(inside.getModifiers()), true);
             Check.due(inside.getName() + " is public", Modifier.isPublic(inside.getModifiers()), false);
+            for (Constructor<?> constructor : inside.getDeclaredConstructors()) {
+                // So that no part of an object is handed to another one while it is being made.
+                Check.due("what " + constructor + " takes", constructor.getParameterCount(), 0);
+            }
         }
         Check.end();
     }
